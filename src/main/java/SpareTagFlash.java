@@ -194,7 +194,6 @@ public final class SpareTagFlash {
     }
 
     public int mount(boolean scan) {
-        on = false;
         int pagesRead = scan || !chip.regionValid
                 ? PAGES_IN_BLOCK * chip.countGood()
                 : PAGES_IN_BLOCK * chip.countGoodTouched() + 1;

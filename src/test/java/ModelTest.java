@@ -46,6 +46,15 @@ public final class ModelTest {
         return random.nextInt(40) == 0 ? ODD[random.nextInt(ODD.length)] : random.nextInt(limit + 1);
     }
 
+    /** Mostly an object that is there. */
+    private int object() {
+        int object = number(7);
+        for (int i = 0; i < 7 && random.nextInt(20) > 0 && model.parentOf(object) < 0; i++) {
+            object = random.nextInt(8);
+        }
+        return object;
+    }
+
     private int name() {
         return random.nextInt(10) == 0 ? random.nextInt() : random.nextInt(6);
     }
@@ -61,15 +70,18 @@ public final class ModelTest {
     }
 
     private void call() {
+        boolean off = model.size(0) == SpareTagFlash.OFF;
         int kind = random.nextInt(100);
-        if (kind < 45) {
+        if (off && trouble % 2 == 1 && kind >= 92) {
+            cutSoon();
+        } else if (off && kind >= 60 || kind >= 75 && kind < 80) {
+            boolean scan = random.nextBoolean();
+            compare("mount(" + scan + ")", flash.mount(scan), model.mount(scan));
+        } else if (kind < 50) {
             change(random.nextInt(100));
         } else if (kind < 75) {
             ask(random.nextInt(6));
-        } else if (kind < 82) {
-            boolean scan = random.nextBoolean();
-            compare("mount(" + scan + ")", flash.mount(scan), model.mount(scan));
-        } else if (kind < 87) {
+        } else if (kind < 84) {
             compare("checkpoint()", flash.checkpoint(), model.checkpoint());
         } else {
             disturb(random.nextInt(100));
@@ -77,11 +89,12 @@ public final class ModelTest {
     }
 
     private void change(int kind) {
-        int a = number(7);
+        int a = object();
         int b = number(7);
         int name = name();
         if (kind < 25) {
             boolean directory = random.nextInt(3) == 0;
+            b = random.nextInt(3) == 0 ? 0 : object();
             compare("create(" + b + ", " + name + ", " + directory + ")",
                     flash.create(b, name, directory), model.create(b, name, directory));
         } else if (kind < 72) {
@@ -90,6 +103,7 @@ public final class ModelTest {
         } else if (kind < 80) {
             compare("truncate(" + a + ", " + b + ")", flash.truncate(a, b), model.truncate(a, b));
         } else if (kind < 94) {
+            b = object();
             compare("move(" + a + ", " + b + ", " + name + ")",
                     flash.move(a, b, name), model.move(a, b, name));
         } else {
@@ -98,7 +112,7 @@ public final class ModelTest {
     }
 
     private void ask(int kind) {
-        int a = number(7);
+        int a = object();
         int b = number(7);
         int name = name();
         switch (kind) {
@@ -116,10 +130,7 @@ public final class ModelTest {
         int block = number(5);
         int page = number(7);
         if (kind < 40 && trouble % 2 == 1) {
-            int n = random.nextInt(8) == 0 ? number(1000) : random.nextInt(12);
-            calls.add("cut(" + n + ")");
-            flash.cut(n);
-            model.cut(n);
+            cutSoon();
         } else if (kind < 44 && trouble > 1) {
             compare("wear(" + block + ")", flash.wear(block), model.wear(block));
         } else if (trouble > 0) {
@@ -127,6 +138,13 @@ public final class ModelTest {
             compare("flip(" + block + ", " + page + ", " + bit + ")",
                     flash.flip(block, page, bit), model.flip(block, page, bit));
         }
+    }
+
+    private void cutSoon() {
+        int n = random.nextInt(8) == 0 ? number(1000) : random.nextInt(12) / (1 + random.nextInt(4));
+        calls.add("cut(" + n + ")");
+        flash.cut(n);
+        model.cut(n);
     }
 
     private void compareChips() {
