@@ -467,11 +467,11 @@ public final class SpareTagFlash {
         }
 
         static int chunk(int tags) {
-            return tags >> 3 & 7;
+            return (tags >> 3) & 7;
         }
 
         static int serialAfter(int tags) {
-            return (tags >> 6) + 1 & 3;
+            return ((tags >> 6) + 1) & 3;
         }
 
         static boolean isMarked(int tags) {
@@ -491,15 +491,15 @@ public final class SpareTagFlash {
         }
 
         static int withSerial(int tags, int serial) {
-            return tags & ~SERIALS | serial << 6;
+            return (tags & ~SERIALS) | (serial << 6);
         }
 
         static int withParent(int tags, int parent) {
-            return tags & ~PARENTS | parent << 9;
+            return (tags & ~PARENTS) | (parent << 9);
         }
 
         static int withLength(int tags, int length) {
-            return tags & ~LENGTHS | length << 12;
+            return (tags & ~LENGTHS) | (length << 12);
         }
 
         static boolean areOf(int tags, int object, int chunk) {
