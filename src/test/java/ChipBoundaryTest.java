@@ -84,9 +84,9 @@ public final class ChipBoundaryTest extends Boundaries {
     }
 
     private static void promise1ThePowerWillNotFail() {
-        Run x = begin("1: the power will not fail");
-        x.due(0, checkpoint(), 505);
-        x.due(1010, steps());
+        Run x = begin("1: the power will not fail, in 512 calls");
+        x.due(0, checkpoint(), 511);
+        x.due(1022, steps());
     }
 
     private static void termsSixBlocksOfEightPages() {
@@ -361,6 +361,13 @@ public final class ChipBoundaryTest extends Boundaries {
             x.idle(NO, flip(0, 0, bit));
             x.idle(NO, flip(1, 0, bit));
         }
+        Run y = oneFile("15: false beside the bounds, with a single page");
+        y.idle(NO, flip(0, 0, -1));
+        y.idle(NO, flip(0, 0, 39));
+        y.idle(NO, flip(0, -1, 0));
+        y.idle(NO, flip(0, 8, 0));
+        y.idle(NO, flip(-1, 0, 0));
+        y.idle(NO, flip(6, 0, 0));
     }
 
     private static void promise15Unprogrammed() {
@@ -496,6 +503,11 @@ public final class ChipBoundaryTest extends Boundaries {
         x.idle(UNPROGRAMMED, tags(5, 7));
         x.idle(headerTags(1, 0, 0, 0), tags(1, 0));
         x.idle(UNPROGRAMMED, tags(1, 1));
+        Run y = oneFile("17: -1 beside the bounds, with a single page");
+        y.idle(-1, tags(-1, 0));
+        y.idle(-1, tags(6, 0));
+        y.idle(-1, tags(0, -1));
+        y.idle(-1, tags(0, 8));
     }
 
     private static void promise17WhileOff() {

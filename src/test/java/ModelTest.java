@@ -2,7 +2,10 @@ import java.util.ArrayList;
 import java.util.List;
 import java.util.Random;
 
-/** Random runs of 512 calls, with fixed seeds, answered by the class and by the model. */
+/**
+ * Random runs of 512 calls, with fixed seeds, answered by the class and by the model. What is
+ * asked between them, to find a fault where it arises, is not counted: the class counts none.
+ */
 public final class ModelTest {
     private static final int RUNS = 800;
     private static final int CALLS = 512;

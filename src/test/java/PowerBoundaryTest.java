@@ -25,6 +25,8 @@ public final class PowerBoundaryTest extends Boundaries {
         promise13NoLiveHeader();
         promise13ChunkGreaterThanTheSize();
         promise13TheHeaderThatIsNotStale();
+        promise13TheHeaderInTheFirstPage();
+        promise13TheHeaderInTheLastPage();
         promise13InTheOrderOfBlocksAndPages();
         promise13SettledBeforeTheFirstIsMarked();
         promise13PowerFails();
@@ -401,6 +403,36 @@ public final class PowerBoundaryTest extends Boundaries {
                 y.due(chunkTags(1, chunk, 0) + marked, tags(0, 2 * chunk - 1));
             }
         }
+    }
+
+    private static void promise13TheHeaderInTheFirstPage() {
+        Run x = writtenUntilFree("13: the size is that of a header in page 0 of block 0", 9);
+        x.due(0, move(1, 0, 11));
+        // Block 0 has no live page any more, so it is collected, and used first.
+        x.due(0, move(1, 0, 12));
+        x.due(2, erases(0));
+        x.due(headerTags(1, 3, 0, 1), tags(0, 0));
+        x.idle(48, mount(true));
+        x.make(cut(1));
+        x.due(OFF, write(1, 2, 99));
+        x.due(48, mount(true));
+        x.due(chunkTags(1, 2, 0) + MARKED, tags(0, 1));
+        x.due(9, read(1, 1));
+    }
+
+    private static void promise13TheHeaderInTheLastPage() {
+        Run x = oneHeaderInEachBlock("13: the size is that of a header in page 7 of block 5");
+        x.due(0, move(1, 0, 11), 5);
+        x.due(headerTags(1, 1, 0, 0), tags(5, 5));
+        x.make(cut(2));
+        x.due(OFF, write(1, 1, 99));
+        x.due(chunkTags(1, 1, 0), tags(5, 6));
+        x.due(headerTags(1, 2, 0, 1), tags(5, 7));
+        x.due(48, mount(true));
+        x.due(headerTags(1, 1, 0, 0) + MARKED, tags(5, 5));
+        x.due(chunkTags(1, 1, 0), tags(5, 6));
+        x.due(headerTags(1, 2, 0, 1), tags(5, 7));
+        x.due(99, read(1, 1));
     }
 
     /** Stale are page 7 of block 0 (chunk 3) and pages 0 (header), 2 (2) and 3 (1) of block 1. */

@@ -9,6 +9,7 @@ final class Run {
     private final SpareTagFlash flash = new SpareTagFlash();
     private final List<Call> calls = new ArrayList<>();
     private String prospect = null;
+    private String watchfulProspect = null;
 
     long make(Call call) {
         if (calls.size() == MOST_CALLS) {
@@ -44,9 +45,23 @@ final class Run {
     void idle(long want, Call call) {
         if (prospect == null) {
             prospect = Prospect.of(this);
+            watchfulProspect = Prospect.of(watchful());
         }
         Run with = again();
         with.due(want, call);
         Prospect.compare(call.text(), prospect, Prospect.of(with));
+        Run watchful = watchful();
+        watchful.make(call);
+        Prospect.compare(call.text(), watchfulProspect, Prospect.of(watchful));
+    }
+
+    /** A copy in which a block that is touched and a step that is done would show. */
+    private Run watchful() {
+        Run copy = again();
+        if (copy.again().make(Boundaries.checkpoint()) >= 0) {
+            copy.make(Boundaries.checkpoint());
+        }
+        copy.make(Boundaries.cut(5));
+        return copy;
     }
 }
