@@ -32,6 +32,7 @@ public final class FaceTest {
         methods();
         constructor();
         nestedClasses();
+        everyClass();
         source();
         Check.end();
     }
@@ -95,6 +96,48 @@ public final class FaceTest {
         }
     }
 
+    private static void everyClass() {
+        Check.begin("every class");
+        Set<String> face = new TreeSet<>();
+        for (Method method : SpareTagFlash.class.getMethods()) {
+            face.add(method.getName());
+        }
+        Class<?>[] nested = SpareTagFlash.class.getDeclaredClasses();
+        Check.due("the number of classes", nested.length < 12, true);
+        oneClass(SpareTagFlash.class);
+        for (Class<?> inside : nested) {
+            oneClass(inside);
+            for (Method method : inside.getDeclaredMethods()) {
+                Check.due(method.getName(), face.contains(method.getName()), false);
+            }
+        }
+    }
+
+    private static void oneClass(Class<?> type) {
+        for (Field field : type.getDeclaredFields()) {
+            if (Modifier.isStatic(field.getModifiers())) {
+                Check.due(field.getName() + " final", Modifier.isFinal(field.getModifiers()), true);
+                Check.due(field.getName() + " plain", field.getType().isPrimitive(), true);
+            }
+        }
+        for (Method method : type.getDeclaredMethods()) {
+            Check.due(method.getName() + " parameters", method.getParameterCount() <= 7, true);
+        }
+    }
+
+    /** Every line of the file that opens a method, with the line that closes it. */
+    private static void methodLengths(String text) {
+        Matcher method = Pattern.compile("(?m)^( +)\\w[\\w ]*\\([^;\\n]*\\) \\{$").matcher(text);
+        int seen = 0;
+        while (method.find()) {
+            int end = text.indexOf("\n" + method.group(1) + "}\n", method.start());
+            long lines = text.substring(method.start(), end).lines().count() + 1;
+            Check.due(method.group().trim() + " is short", lines <= 60, true);
+            seen++;
+        }
+        Check.due("methods were seen", seen >= METHODS.length, true);
+    }
+
     private static void source() throws IOException {
         Check.begin("the source");
         String text = Files.readString(Path.of("src/main/java/SpareTagFlash.java"));
@@ -103,6 +146,7 @@ public final class FaceTest {
         while (matcher.find()) {
             Check.due(matcher.group(), true, false);
         }
+        methodLengths(text);
         Check.due("all characters are plain", text.chars().allMatch(c -> c < 128), true);
     }
 }
